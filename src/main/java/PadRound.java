@@ -1,5 +1,3 @@
-import java.util.Arrays;
-
 /**
  * Drawn, guessed, drawn: players about a table with pads. The numbered promises of the
  * document say what each call answers; nothing here throws, and nothing is made after
@@ -198,8 +196,8 @@ public final class PadRound {
         if (playerCount >= PLAYERS) {
             return FULL;
         }
-        players[playerCount].become(kind, land, parts, favourite, boxes[land]);
         playerCount++;
+        seatPlayer(playerCount - 1, kind, land, parts, favourite);
         return playerCount - 1;
     }
 
@@ -677,8 +675,7 @@ public final class PadRound {
         leafCount = 0;
         for (int p = 0; p < playerCount; p++) {
             int v = rows[r].get(p);
-            int home = v / 100 % 10 == 0 ? 0 : 1;
-            players[p].become(v / 1000, home, v / 10 % 10, v % 10, boxes[home]);
+            seatPlayer(p, v / 1000, v / 100 % 10, v / 10 % 10, v % 10);
         }
         return playerCount;
     }
@@ -845,6 +842,18 @@ public final class PadRound {
     }
 
     // ---- what several calls do
+
+    /** A BOX never changes under a PLAYER, so what he draws is looked up once, for READERS. */
+    private void seatPlayer(int p, int kind, int land, int many, int favourite) {
+        if (!isPlayer(p) || !isLand(land)) {
+            return;
+        }
+        players[p].become(kind, land, many, favourite, boxes[land]);
+        for (int w = 0; w < WORDS; w++) {
+            drawing.drawBy(players[p], w);
+            players[p].drawnSets[w] = drawing.set();
+        }
+    }
 
     private void guessFirstPart(Player p) {
         drawing.takeSet(1);
@@ -1071,7 +1080,9 @@ public final class PadRound {
 
         void renew(int n, int v) {
             size = Math.max(0, Math.min(n, places.length));
-            Arrays.fill(places, 0, size, v);
+            for (int i = 0; i < size; i++) {
+                places[i] = v;
+            }
         }
 
         void take(int[] from, int n) {
@@ -1226,6 +1237,7 @@ public final class PadRound {
 
     /** One who draws and guesses; the BOX is that of his LAND. */
     private static final class Player {
+        private final int[] drawnSets = new int[WORDS];
         private int kind;
         private int land;
         private int many;
@@ -1344,7 +1356,6 @@ public final class PadRound {
     private static final class Shares {
         private final int[] sums = new int[WORDS];
         private final int[] cut = new int[WORDS];
-        private final Drawing own = new Drawing();
         private int words;
         private int greatest;
 
@@ -1387,8 +1398,7 @@ public final class PadRound {
                 sum += p.box.usualOf(word, p.kind == TURNED ? PARTS - 1 - part : part);
             }
             if (p.kind == READER && by != null) {
-                own.drawBy(by, word);
-                sum += 4 * Integer.bitCount(own.set() & seen.set());
+                sum += 4 * Integer.bitCount(by.drawnSets[word] & seen.set());
             }
             return sum;
         }
@@ -1440,7 +1450,9 @@ public final class PadRound {
         }
 
         void beginWithAll() {
-            Arrays.fill(odds, 1);
+            for (int w = 0; w < WORDS; w++) {
+                odds[w] = 1;
+            }
         }
 
         /** Where the SHARES of a STEP begin, for a PAD that starts at a place. */
@@ -1454,13 +1466,17 @@ public final class PadRound {
         }
 
         private void pass(int base) {
-            Arrays.fill(next, 0);
+            for (int v = 0; v < words; v++) {
+                next[v] = 0;
+            }
             for (int w = 0; w < words; w++) {
                 for (int v = 0; v < words && odds[w] != 0; v++) {
                     next[v] += odds[w] * steps[base + w * WORDS + v];
                 }
             }
-            System.arraycopy(next, 0, odds, 0, WORDS);
+            for (int v = 0; v < words; v++) {
+                odds[v] = next[v];
+            }
         }
 
         void passFrom(int start) {
