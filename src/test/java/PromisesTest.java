@@ -1095,17 +1095,20 @@ public final class PromisesTest {
         due("sign, WEEK 10", x.sign(0, 1, 0, 10, 1), BAD);
         due("sign, row 6", x.sign(0, 1, 0, 0, 6), BAD);
         holds("the ROW stays", x, 1, 0);
-        // A READER who knows by whom has 12 for PART 0, one who does not 10.
         x = world("w4400000000w5000000000");
         x.player(0, 0, 2, 0);
         x.player(5, 0, 2, 0);
+        due("a READER has SUMS 8, 9: 11 of 24", x.sign(0, 1, 0, 1, 1), 2);
+        x = world("w4300000000w4000000003");
         x.player(0, 0, 2, 0);
-        due("another one", x.sign(0, 2, 0, 1, 1), 2);
-        due("SUMS 8, 9: 11 of 24", x.sign(0, 1, 0, 1, 1), 2);
-        x = world("w4300000000w2900000000w4000000001");
-        x.player(0, 0, 1, 0);
+        x.player(0, 0, 2, 0);
+        due("12 of 24", x.sign(0, 1, 1, 1, 1), 1);
+        x = world("w4300000000w5000098000");
+        x.player(0, 0, 2, 0);
+        x.player(0, 0, 2, 0);
         x.player(5, 0, 2, 0);
-        due("one PART", x.sign(0, 1, 0, 1, 1), 1);
+        due("a plain one has SUMS 4, 5", x.sign(0, 1, 0, 1, 1), 2);
+        due("a READER knows by whom: SUMS 8, 5", x.sign(0, 2, 0, 1, 1), 1);
     }
 
     private static void stranger() {
