@@ -517,6 +517,8 @@ public final class PromisesTest {
         finds("guess(0, 5, NONE, 1)", x, NOTHING, x.guess(0, 5, NONE, 1));
         x.row(5, 0);
         finds("no PARTS", x, SIZE, x.guess(0, 5, NONE, 1));
+        fill(x, 5, 5, 4, 3, 2, 1, 0);
+        due("six PARTS", x.guess(0, 5, NONE, 1), 0);
         fill(x, 5, 0, 1, 2, 3, 4, 5, 6);
         finds("seven PARTS", x, SIZE, x.guess(0, 5, NONE, 1));
         fill(x, 5, 0, 10);
@@ -635,6 +637,12 @@ public final class PromisesTest {
         // SUMS of [0, 1]: 8 15 4, of [1, 2]: 2 17 2, of [0, 1] again.
         due("keeps(0, 1, 4)", x.keeps(0, 1, 4), 3);
         due("asked()", x.asked(), 2);
+        x = world("w1000000000w0100000000w0010000000");
+        x.player(0, 0, 1, 0);
+        x.player(2, 0, 1, 0);
+        fill(x, 0, 0, 1);
+        due("1 and 2 have 2 of 24", x.keeps(0, 1, 12), 7);
+        due("the first of alike ones", x.asked(), 1);
     }
 
     private static void was() {
@@ -669,10 +677,15 @@ public final class PromisesTest {
         due("off(0, 1, 1, 0)", x.off(0, 1, 1, 0), BAD);
         due("off(0, 2, 1, 0)", x.off(0, 2, 1, 0), BAD);
         due("off(0, 1, 2, 0)", x.off(0, 1, 2, 0), BAD);
+        due("no ROW, STEP 4", x.off(5, 0, 1, 4), BAD);
         finds("no ROW, no such STEP", x, NOTHING, x.off(5, 0, 1, 3));
         fill(x, 5, 0, 0);
         finds("twice, no such STEP", x, UNLIKE, x.off(5, 0, 1, 3));
         tableRefusals("off", (y, r) -> y.off(r, 0, 1, 0));
+        x = plainTable(8);
+        due("off(0, 0, 1, 3)", x.off(0, 0, 1, 3), 1);
+        // 14 14 14 10 of 236 340 + 340 440.
+        tells("27440 of 229840", x, 343, 2873);
         x = plainTable(6);
         due("off(0, 0, 1, 0)", x.off(0, 0, 1, 0), 1);
         tells("home again and off again: 4400 of 9160", x, 110, 229);
@@ -801,10 +814,17 @@ public final class PromisesTest {
         due("asked() stays", x.asked(), 3);
         due("his FAVOURITE", x.few(0, 1, 24), 1);
         due("asked()", x.asked(), 4);
+        due("few(0, 0, 1)", x.few(0, 0, 1), 1);
+        due("asked()", x.asked(), 1);
         due("few(0, 0, 0)", x.few(0, 0, 0), BAD);
         due("few(0, 0, 25)", x.few(0, 0, 25), BAD);
         due("few(0, 3, 1)", x.few(0, 3, 1), BAD);
         due("few(1, 0, 1)", x.few(1, 0, 1), BAD);
+        x = world("w1111110000w0000000001");
+        x.player(2, 0, 1, 1);
+        due("six by nine", x.few(0, 0, 9), 6);
+        due("asked()", x.asked(), 63);
+        due("seven are too many", x.few(0, 0, 10), NONE);
     }
 
     private static void soon() {
@@ -861,6 +881,7 @@ public final class PromisesTest {
         due("asked()", x.asked(), 0);
         due("common(1, 1)", x.common(1, 1), 4);
         due("asked()", x.asked(), 2 + 8);
+        due("common(0, 9)", x.common(0, 9), 0);
         due("common(2, 1)", x.common(2, 1), BAD);
     }
 
