@@ -2,90 +2,7 @@
  * One test for each promise of the document at least, with answers worked out by hand:
  * ordinary inputs, the edges that the document names, wrong inputs and the order of refusals.
  */
-public final class PromisesTest {
-    private static final int BAD = -1, FULL = -2, FINDING = -3, STATE = -4, SPENT = -6, NONE = -9;
-    private static final int NOTHING = 1, BEYOND = 2, UNLIKE = 3, NOUGHT = 4, SIZE = 5;
-    private static final int LOW = Integer.MIN_VALUE, HIGH = Integer.MAX_VALUE;
-
-    /** Two WORDS: a plain one of 2 PARTS draws 0 as [0, 1], 1 as [1, 2]; STEPS: 14 10, 4 20. */
-    private static final String TWO = "w6200000000w0620000000";
-    private static final String TWO_ABROAD = "w6000000002w0062000000";
-    /** WORD 0 is known by PARTS 0 and 1 together alone. */
-    private static final String HIDDEN = "w4400000000w5000000000w0500000000";
-
-    private static int wrong = 0;
-    private static int promise = 0;
-
-    private static void due(String call, long got, long want) {
-        if (got != want) {
-            wrong++;
-            System.out.println("promise " + promise + ": " + call + " answered " + got + ", due is " + want);
-        }
-    }
-
-    private static void finds(String call, PadRound x, int finding, int got) {
-        due(call, got, FINDING);
-        due(call + ", finding()", x.finding(), finding);
-    }
-
-    private static void asks(String call, PadRound x, int told, int got) {
-        due(call, got, 1);
-        due(call + ", asked()", x.asked(), told);
-    }
-
-    private static void tells(String call, PadRound x, long up, long low) {
-        due(call + ", upper()", x.upper(), up);
-        due(call + ", lower()", x.lower(), low);
-    }
-
-    private static void write(PadRound x, int t, String s) {
-        x.text(t, s.length());
-        for (int i = 0; i < s.length(); i++) {
-            x.put(t, i, s.charAt(i));
-        }
-    }
-
-    private static void fill(PadRound x, int r, int... v) {
-        x.row(r, v.length);
-        for (int i = 0; i < v.length; i++) {
-            x.lay(r, i, v[i]);
-        }
-    }
-
-    private static void holds(String call, PadRound x, int r, int... v) {
-        for (int i = 0; i < v.length; i++) {
-            due(call + ", at(" + r + ", " + i + ")", x.at(r, i), 1);
-            due(call + ", place " + i, x.asked(), v[i]);
-        }
-        due(call + ", size of row " + r, x.at(r, v.length), FINDING);
-        due(call + ", row " + r + " ends", x.finding(), BEYOND);
-    }
-
-    private static PadRound world(String home) {
-        PadRound x = new PadRound();
-        write(x, 0, home);
-        x.box(0, 0);
-        return x;
-    }
-
-    private static PadRound world(String home, String abroad) {
-        PadRound x = world(home);
-        write(x, 1, abroad);
-        x.box(1, 1);
-        return x;
-    }
-
-    private static PadRound plainTable(int n) {
-        PadRound x = world(TWO);
-        int[] table = new int[n];
-        for (int p = 0; p < n; p++) {
-            x.player(0, 0, 2, 0);
-            table[p] = p;
-        }
-        fill(x, 0, table);
-        return x;
-    }
-
+public final class PromisesTest extends Checks {
     public static void main(String[] args) {
         newObject();
         row();
@@ -134,8 +51,7 @@ public final class PromisesTest {
         count();
         findings();
         digest();
-        System.out.println(wrong == 0 ? "every promise is kept" : wrong + " answers are not as due");
-        System.exit(wrong == 0 ? 0 : 1);
+        end("every promise is kept");
     }
 
     private static void newObject() {
@@ -553,7 +469,7 @@ public final class PromisesTest {
     }
 
     /** What every call on a TABLE refuses, in its order. */
-    private static void tableRefusals(String name, OfTable f) {
+    private static void tableRefused(String name, OfTable f) {
         PadRound x = plainTable(4);
         fill(x, 4, 0, 1, 0, 1);
         due(name + " of row 6", f.call(x, 6), BAD);
@@ -591,7 +507,7 @@ public final class PromisesTest {
         x = plainTable(8);
         due("comes(0, 0, 0) by eight", x.comes(0, 0, 0), 1);
         tells("(236 236 + 340 136) of 331776", x, 6371, 20736);
-        tableRefusals("comes", (y, r) -> y.comes(r, 0, 1));
+        tableRefused("comes", (y, r) -> y.comes(r, 0, 1));
         x = world("w1000000000w0100000000");
         x.player(0, 0, 1, 0);
         x.player(0, 0, 1, 0);
@@ -607,7 +523,7 @@ public final class PromisesTest {
         PadRound x = plainTable(4);
         due("most(0)", x.most(0), 1);
         tells("372 against 780 of 576", x, 65, 48);
-        tableRefusals("most", (y, r) -> y.most(r));
+        tableRefused("most", (y, r) -> y.most(r));
         x = world("w1000000000w0100000000");
         x.player(0, 0, 1, 0);
         x.player(0, 0, 1, 0);
@@ -629,7 +545,7 @@ public final class PromisesTest {
         due("keeps(0, 1, 100)", x.keeps(0, 1, 100), BAD);
         due("keeps(0, 2, 1)", x.keeps(0, 2, 1), BAD);
         due("keeps(5, -2, -1)", x.keeps(5, -2, -1), BAD);
-        tableRefusals("keeps", (y, r) -> y.keeps(r, 1, 2));
+        tableRefused("keeps", (y, r) -> y.keeps(r, 1, 2));
         x = world("w6200000000w0620000000w2200000000");
         x.player(2, 0, 2, 2);
         x.player(2, 0, 2, 1);
@@ -654,7 +570,7 @@ public final class PromisesTest {
         tells("340 of 780", x, 17, 39);
         due("was(0, 2, 0)", x.was(0, 2, 0), BAD);
         due("was(5, 0, 2)", x.was(5, 0, 2), BAD);
-        tableRefusals("was", (y, r) -> y.was(r, 0, 1));
+        tableRefused("was", (y, r) -> y.was(r, 0, 1));
         x = world("w1000000000w1000000000");
         x.player(0, 0, 1, 0);
         x.player(4, 0, 1, 0);
@@ -681,7 +597,7 @@ public final class PromisesTest {
         finds("no ROW, no such STEP", x, NOTHING, x.off(5, 0, 1, 3));
         fill(x, 5, 0, 0);
         finds("twice, no such STEP", x, UNLIKE, x.off(5, 0, 1, 3));
-        tableRefusals("off", (y, r) -> y.off(r, 0, 1, 0));
+        tableRefused("off", (y, r) -> y.off(r, 0, 1, 0));
         x = plainTable(8);
         due("off(0, 0, 1, 3)", x.off(0, 0, 1, 3), 1);
         // 14 14 14 10 of 236 340 + 340 440.
@@ -701,7 +617,7 @@ public final class PromisesTest {
         finds("never", x, NOUGHT, x.off(0, 0, 1, 0));
     }
 
-    private static void padsRefusals(String name, OfTable f) {
+    private static void padsRefused(String name, OfTable f) {
         PadRound x = plainTable(4);
         finds(name + " without PADS", x, NOTHING, f.call(x, 0));
         fill(x, 5, 9);
@@ -716,7 +632,7 @@ public final class PromisesTest {
         finds(name + ", no WORD", x, UNLIKE, f.call(x, 0));
         fill(x, 4, 0, 1, -1, 0);
         finds(name + ", WORD -1", x, UNLIKE, f.call(x, 0));
-        tableRefusals(name, f);
+        tableRefused(name, f);
     }
 
     private static void kept() {
@@ -729,7 +645,7 @@ public final class PromisesTest {
         due("kept(0, 1)", x.kept(0, 1), 0);
         due("kept(0, 6)", x.kept(0, 6), BAD);
         due("kept(6, 5)", x.kept(6, 5), BAD);
-        padsRefusals("kept", (y, r) -> y.kept(r, 4));
+        padsRefused("kept", (y, r) -> y.kept(r, 4));
         x = world("w9000000000w0900000000");
         x.player(0, 0, 1, 0);
         x.player(2, 0, 1, 0);
@@ -778,7 +694,7 @@ public final class PromisesTest {
         due("seats(5, 6, 5)", x.seats(5, 6, 5), BAD);
         holds("the ROW stays", x, 2, 0, 2, 1, 3, 4, 5);
         tells("refused", x, 11, 2);
-        padsRefusals("seats", (y, r) -> y.seats(r, 4, 3));
+        padsRefused("seats", (y, r) -> y.seats(r, 4, 3));
     }
 
     private static void parts() {
