@@ -152,6 +152,9 @@ public final class EdgesOfLeavesTest extends Checks {
         both("all together: 0 and 9, or 1 and 8", y, 0, 9, y.hand(2));
         y.leaf(2, 0, 0);
         both("18, or 17", y, 1, 17, y.hand(2));
+        y.back(0);
+        y.leaf(1, 0, 0);
+        both("by LEAF 0 alone: 8, or 7", y, 1, 7, y.hand(1));
     }
 
     private static void guesser() {
@@ -206,6 +209,13 @@ public final class EdgesOfLeavesTest extends Checks {
         y.guessed(0, 1, 0, 0);
         due("a TURNED one alone", y.guesser(0), 4);
         tells("0 0 0 0 12 0", y, 1, 1);
+        y = world("w9000000009w0000000001w0000000009");
+        y.player(0, 0, 1, 0);
+        fill(y, 1, 0);
+        y.guessed(0, 1, NONE, 1);
+        // Upside down SUMS are 9, 1, 9; else WORD 0 is sure.
+        due("the least SHARE that there is", y.guesser(0), 4);
+        tells("0 0 0 0 1 0", y, 1, 1);
     }
 
     private static void machine() {

@@ -113,6 +113,10 @@ public final class EdgesOfRoundsTest extends Checks {
         fill(y, 3, 0);
         due("land(3)", y.land(3), 1);
         tells("of LAND 0 alone", y, 1, 1);
+        y = world("w4000000000", "w3000000000");
+        fill(y, 0, 0);
+        due("land(0)", y.land(0), 1);
+        tells("4 and 3, in lowest terms as they are", y, 4, 7);
         y = plainTable(8);
         due("comes by eight", y.comes(0, 0, 1), 1);
         tells("229840 of 331776", y, 14365, 20736);
@@ -290,6 +294,8 @@ public final class EdgesOfRoundsTest extends Checks {
             refuses(name + " of " + n, SIZE, padsAt(upTo(n), new int[n]), call);
         }
         refuses(name + " of ten", SIZE, padsAt(new int[10], new int[10]), call);
+        refuses(name + " of three, no WORDS", SIZE, padsAt(upTo(3), 2, 2, 2), call);
+        refuses(name + " of none, one PAD of no WORD", SIZE, padsAt(upTo(0), 2), call);
         refuses(name + ", too few PADS", SIZE, padsAt(upTo(4), 0, 1, 0), call);
         refuses(name + ", too many PADS", SIZE, padsAt(upTo(4), 0, 1, 0, 1, 0), call);
         refuses(name + ", an empty ROW of PADS", SIZE, padsAt(upTo(2)), call);
@@ -368,6 +374,17 @@ public final class EdgesOfRoundsTest extends Checks {
         due("six, all alike, to the TABLE itself", y.seats(0, 1, 0), 120);
         holds("six, all alike", y, 0, 3, 0, 1, 2, 4, 5);
         tells("six, all alike", y, 6, 1);
+        y = world(EIGHT);
+        for (int p = 0; p < 8; p++) {
+            y.player(0, 0, 1, 1);
+        }
+        for (int w = 0; w < 8; w += 7) {
+            fill(y, 0, 0, 5, 4, 3, 2, 1);
+            fill(y, 1, w, w, w, w, w, w);
+            due("six, eight WORDS", y.seats(0, 1, 2), 120);
+            holds("six, eight WORDS", y, 2, 0, 1, 2, 3, 4, 5);
+            tells("six, eight WORDS", y, 6, 1);
+        }
         y = sharpTable(4, true);
         fill(y, 0, 0, 1, 2, 3);
         fill(y, 1, 0, 1, 0, 1);
@@ -462,6 +479,12 @@ public final class EdgesOfRoundsTest extends Checks {
         fill(y, 0, 5, 4, 3, 2, 1, 0);
         due("all six are wanted", y.soon(0, 0, 0, 1), 6);
         holds("all six are wanted", y, 1, 0, 1, 2, 3, 4, 5);
+        y = world("w3333330000w6033330000w3603330000w3360330000w3336030000w3333600000");
+        y.player(0, 0, 1, 1);
+        fill(y, 0, 0, 1, 2, 3, 4, 5);
+        // Each PART but 5 is a WORD's of its own, until the one above it has come.
+        due("the last of all orders", y.soon(0, 0, 0, 1), 1);
+        holds("the last of all orders", y, 1, 5, 4, 3, 2, 1, 0);
     }
 
     private static void common() {
