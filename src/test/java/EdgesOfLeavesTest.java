@@ -23,6 +23,7 @@ public final class EdgesOfLeavesTest extends Checks {
         on();
         asked();
         fractionTold();
+        tellsNoFraction();
         count();
         findings();
         digest();
@@ -490,11 +491,6 @@ public final class EdgesOfLeavesTest extends Checks {
         fill(y, 1, 1, 1);
         y.comes(0, 0, 0);
         tells("comes()", y, 7, 12);
-        y.step(0, 1, 1, 2);
-        y.keeps(0, 1, 2);
-        y.parts(0, 0, 1);
-        y.asked();
-        tells("what tells no fraction", y, 7, 12);
         y.kept(0, 1);
         tells("kept()", y, 5, 3);
         y.was(0, 0, 0);
@@ -505,6 +501,25 @@ public final class EdgesOfLeavesTest extends Checks {
         tells("off()", y, 1, 1);
         y.seats(0, 1, 2);
         tells("seats()", y, 5, 3);
+    }
+
+    private static void tellsNoFraction() {
+        sentence(44, "The upper number of the fraction that was told last");
+        List<ToIntFunction<PadRound>> others = List.of(x -> x.row(0, 3), x -> x.lay(0, 0, 1), x -> x.at(0, 0),
+                x -> x.tear(0), x -> x.copy(0, 0, 1, 0, 2), x -> x.mean(0), x -> x.text(0, 3), x -> x.put(0, 0, 1),
+                x -> x.fault(0), x -> x.box(0, 0), x -> x.usual(0, 0, 0), x -> x.about(0, 0), x -> x.mark(1, 1),
+                x -> x.mark(5, 5), x -> x.draws(0, 0, 0), x -> x.guess(0, 2, 0, 0), x -> x.step(0, 1, 0, 0),
+                x -> x.keeps(0, 1, 2), x -> x.parts(0, 0, 2), x -> x.few(0, 0, 12), x -> x.few(2, 1, 24),
+                x -> x.soon(0, 0, 2, 0), x -> x.common(0, 1), x -> x.leaf(0, 0, 2), x -> x.guessed(0, 2, 0, 0),
+                x -> x.told(0, 0), x -> x.back(1), x -> x.hand(0), x -> x.machine(2), PadRound::held,
+                x -> x.sign(0, 1, 0, 1, 0), x -> x.stranger(0, 1, 0, 2), x -> x.image(0), x -> x.on(x.image(0) - 8),
+                x -> x.asked(), x -> x.count(0), x -> x.finding(), x -> x.findings(1), x -> (int) x.digest());
+        for (int i = 0; i < others.size(); i++) {
+            PadRound y = evening();
+            others.get(i).applyAsInt(y);
+            // PARTED: 14 24 and 10 6 of 576.
+            tells("what tells no fraction, " + i, y, 11, 16);
+        }
     }
 
     private static void count() {

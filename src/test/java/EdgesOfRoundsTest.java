@@ -72,6 +72,11 @@ public final class EdgesOfRoundsTest extends Checks {
         fill(y, 0, 0, 1, 3, 2);
         due("he only draws", y.comes(0, 0, 0), 1);
         tells("he only draws", y, 1, 1);
+        y = plainTable(2);
+        y.player(5, 0, 2, 0);
+        fill(y, 0, 0, 2);
+        due("a READER at the TABLE", y.comes(0, 0, 0), 1);
+        tells("he knows who drew: 15 of 24", y, 5, 8);
         sentence(19, "(perhaps itself)");
         y = plainTable(2);
         due("to itself", y.comes(0, 0, 0), 1);
@@ -416,6 +421,9 @@ public final class EdgesOfRoundsTest extends Checks {
         both("PARTED, PART 9 never comes first", y, 3, 0, y.parts(2, 0, 2));
         both("TURNED, PART 0 is PART 9", y, 1, 24, y.parts(3, 0, 1));
         both("FIXED: 9 against 9", y, 512, 12, y.parts(4, 0, 1));
+        y = world("w5000000000w6000980000");
+        y.player(5, 0, 2, 1);
+        both("a READER, SUMS 5, 6", y, 1, 10, y.parts(0, 0, 1));
         y = world("w0000000001");
         y.player(0, 0, 1, 0);
         both("one WORD alone", y, 63, 24, y.parts(0, 0, 6));
@@ -440,6 +448,11 @@ public final class EdgesOfRoundsTest extends Checks {
         refuses("seven would do", NONE, y, x -> x.few(0, 0, 10));
         both("one has 24", y, 1, 1, y.few(1, 0, 24));
         both("PARTS that are nowhere", y, 1, 64, y.few(1, 1, 1));
+        sentence(27, "by which, so drawn, a PLAYER has a SHARE");
+        PadRound reader = world("w5000000000w6000980000");
+        reader.player(5, 0, 2, 1);
+        both("a READER, SUMS 5, 6", reader, 1, 1, reader.few(0, 0, 10));
+        refuses("a READER does not know by whom", NONE, reader, x -> x.few(0, 0, 11));
         sentence(27, "The fewest PARTS (1 .. 6)");
         both("six, the last that may be", y, 6, 63, y.few(0, 0, 9));
     }
@@ -454,6 +467,12 @@ public final class EdgesOfRoundsTest extends Checks {
         refuses("to a ROW", NONE, evening(5, 2), x -> x.soon(0, 0, 5, 4));
         refuses("to a missing ROW", NONE, evening(), x -> x.soon(4, 1, 2, 5));
         refuses("to the ROW itself", NONE, evening(5, 2, 1), x -> x.soon(0, 0, 5, 5));
+        sentence(28, "a PLAYER who watches (not known by whom)");
+        PadRound reader = world("w5000000000w6000980000");
+        reader.player(5, 0, 2, 1);
+        fill(reader, 0, 0);
+        refuses("a READER, SUMS 5, 6", NONE, reader, x -> x.soon(0, 0, 0, 1));
+        due("a READER, SUMS 5, 6", reader.soon(0, 1, 0, 1), 1);
         sentence(28, "its SHARE is the greatest (the first of alike ones counts), k as little as may be");
         PadRound y = world("w1100000000w1100000000w0300000000");
         y.player(0, 0, 1, 2);
