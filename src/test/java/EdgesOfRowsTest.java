@@ -6,6 +6,8 @@ import java.math.BigInteger;
  */
 public final class EdgesOfRowsTest extends Checks {
     public static void main(String[] args) {
+        order();
+        nothingChanges();
         newObject();
         row();
         lay();
@@ -28,6 +30,41 @@ public final class EdgesOfRowsTest extends Checks {
         guess();
         shares();
         end("rows, texts, boxes, players: each edge is kept");
+    }
+
+    private static PadRound eightAtTheTable() {
+        PadRound x = evening(5, upTo(8));
+        fill(x, 3, new int[8]);
+        return x;
+    }
+
+    private static void order() {
+        sentence(0, "Refused is, the first of these that fits, in this order: BAD -1");
+        refuses("BAD ahead of FULL", BAD, evening(), x -> x.player(0, 0, 0, 0));
+        refuses("BAD ahead of STATE", BAD, evening(), x -> x.box(2, 2));
+        refuses("BAD ahead of SPENT", BAD, eightAtTheTable(), x -> x.seats(5, 3, -1));
+        refuses("BAD ahead of NOTHING", BAD, evening(), x -> x.guess(8, 5, NONE, 0));
+        refuses("BAD ahead of BEYOND", BAD, evening(), x -> x.at(6, 40));
+        refuses("BAD ahead of UNLIKE", BAD, evening(), x -> x.mark(0, 6));
+        refuses("BAD ahead of SIZE", BAD, evening(), x -> x.comes(3, 2, 0));
+        refuses("BAD ahead of NOUGHT", BAD, evening(), x -> x.was(0, 2, 0));
+        sentence(0, "unless a call says so otherwise.");
+        refuses("NOTHING ahead of STATE", NOTHING, evening(), x -> x.box(0, 3));
+        refuses("UNLIKE ahead of SPENT", UNLIKE, evening(5, new int[8]), x -> x.seats(5, 5, 4));
+    }
+
+    private static void nothingChanges() {
+        sentence(0, "What is refused changes nothing but finding(), findings().");
+        refuses("BAD", BAD, evening(), x -> x.row(0, 41));
+        refuses("FULL", FULL, evening(), x -> x.player(0, 0, 1, 0));
+        refuses("STATE", STATE, evening(), x -> x.box(0, 2));
+        refuses("SPENT", SPENT, eightAtTheTable(), x -> x.seats(5, 3, 4));
+        refuses("NOTHING", NOTHING, evening(), x -> x.copy(0, 0, 5, 0, 1));
+        refuses("BEYOND", BEYOND, evening(), x -> x.copy(0, 0, 4, 0, 4));
+        refuses("UNLIKE", UNLIKE, evening(5, 20, 6000), x -> x.on(5));
+        refuses("NOUGHT", NOUGHT, evening(), x -> x.guesser(0));
+        refuses("SIZE", SIZE, evening(), x -> x.text(0, -1));
+        refuses("NONE", NONE, evening(5, 2), x -> x.soon(0, 0, 5, 4));
     }
 
     private static void newObject() {
