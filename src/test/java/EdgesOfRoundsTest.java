@@ -111,6 +111,7 @@ public final class EdgesOfRoundsTest extends Checks {
         y.comes(0, 0, 1);
         due("seats(0, 1, 2)", y.seats(0, 1, 2), 1);
         tells("by no order", y, 0, 1);
+        holds("by no order, the first", y, 2, 1, 0);
         y.comes(0, 0, 1);
         fill(y, 3, 2, 3);
         due("land(3)", y.land(3), 1);
@@ -250,6 +251,27 @@ public final class EdgesOfRoundsTest extends Checks {
         for (int k = 0; k < 3; k++) {
             due("off(0, 0, 1, " + k + ")", y.off(0, 0, 1, k), 1);
             tells("it was off from STEP 0 on", y, k == 0 ? 1 : 0, 1);
+        }
+        y = world(EIGHT);
+        y.player(0, 0, 1, 0);
+        y.player(4, 0, 1, 7);
+        fill(y, 0, 0, 1);
+        // Upside down PARTS 0, 1 are nowhere, and PART 2 is PART 7.
+        due("eight WORDS, off(0, 0, 7, 0)", y.off(0, 0, 7, 0), 1);
+        tells("eight WORDS", y, 1, 1);
+        due("eight WORDS, off(0, 7, 2, 0)", y.off(0, 7, 2, 0), 1);
+        tells("eight WORDS", y, 1, 1);
+        refuses("eight WORDS, never", NOUGHT, y, x -> x.off(0, 7, 0, 0));
+        y.player(0, 0, 1, 0);
+        y.player(0, 0, 1, 0);
+        fill(y, 0, 0, 2, 3, 1);
+        for (int k = 0; k < 2; k++) {
+            due("eight WORDS, off(0, 7, 2, " + k + ")", y.off(0, 7, 2, k), 1);
+            tells("eight WORDS, it stayed by STEP 0", y, k, 1);
+        }
+        y = world(SHARP);
+        for (int p = 0; p < 6; p++) {
+            y.player(p % 2 == 0 ? 0 : 4, 0, 1, says[p]);
         }
         fill(y, 0, 2, 3, 0, 5);
         for (int k = 0; k < 2; k++) {
@@ -427,6 +449,11 @@ public final class EdgesOfRoundsTest extends Checks {
         y = world("w0000000001");
         y.player(0, 0, 1, 0);
         both("one WORD alone", y, 63, 24, y.parts(0, 0, 6));
+        y = world("w1111111111w1111111111");
+        y.player(0, 0, 1, 0);
+        for (int n = 1; n <= 6; n++) {
+            both("all alike, n " + n, y, (1 << n) - 1, 12, y.parts(0, 0, n));
+        }
     }
 
     private static void few() {
@@ -448,6 +475,10 @@ public final class EdgesOfRoundsTest extends Checks {
         refuses("seven would do", NONE, y, x -> x.few(0, 0, 10));
         both("one has 24", y, 1, 1, y.few(1, 0, 24));
         both("PARTS that are nowhere", y, 1, 64, y.few(1, 1, 1));
+        PadRound alike = world("w1111111111w1111111111");
+        alike.player(0, 0, 1, 0);
+        both("all alike", alike, 1, 1, alike.few(0, 0, 12));
+        refuses("no PARTS at all would do", NONE, alike, x -> x.few(0, 0, 13));
         sentence(27, "by which, so drawn, a PLAYER has a SHARE");
         PadRound reader = world("w5000000000w6000980000");
         reader.player(5, 0, 2, 1);

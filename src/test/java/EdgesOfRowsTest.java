@@ -162,6 +162,10 @@ public final class EdgesOfRowsTest extends Checks {
         refuses("tear it again", NOTHING, y, x -> x.tear(3));
         refuses("lay there", NOTHING, y, x -> x.lay(3, 0, 1));
         due("the others stay", y.count(6), 4);
+        PadRound torn = new PadRound();
+        fill(torn, 2, 8);
+        torn.tear(2);
+        due("as if it had never been", torn.digest(), new PadRound().digest());
         due("row(3, 1)", y.row(3, 1), 1);
         holds("it comes again", y, 3, 0);
     }
