@@ -35,7 +35,7 @@ abstract class Checks {
     }
 
     /** A promise's text; 0: what stands ahead of them all. */
-    private static String section(int of) {
+    static String section(int of) {
         if (document.isEmpty()) {
             try {
                 document = Files.readString(Path.of("../shared/DOC.md")).replaceAll("\\s+", " ");
