@@ -283,6 +283,9 @@ public final class SentencesTest extends Checks {
             due("abroad to home, " + word, y.step(2, 0, word, 5), abroadToHome[word][word]);
             holds("abroad to home, " + word, y, 5, abroadToHome[word]);
         }
+        y = company();
+        due("a READER knows that one from abroad drew: 12 4 0 of 16", y.step(6, READER, 0, 5), 18);
+        holds("a READER", y, 5, 18, 6, 0);
     }
 
     private static void tables() {
